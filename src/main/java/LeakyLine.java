@@ -1023,12 +1023,8 @@ public final class LeakyLine {
     }
 
     private static long factorial(int n) {
-        return product(1, n);
-    }
-
-    private static long product(int from, int to) {
         long all = 1;
-        for (int i = from; i <= to; i++) {
+        for (int i = 2; i <= n; i++) {
             all *= i;
         }
         return all;
