@@ -66,6 +66,7 @@ final class ActEdges extends Edges {
     private void snaps() {
         s.promise(76, "A SPAN is broken from a DAY on (III): joined() of the last one then.");
         LeakyLine x = Check.told(Wires.LONG);
+        x.without(1);
         s.due("snaps(4, 13), the last DAY itself", 4, x.snaps(4, 13));
         s.due("joined(12)", 5, x.joined(12));
         s.due("snaps(2, 0)", 2, x.snaps(2, 0));
@@ -275,12 +276,17 @@ final class ActEdges extends Edges {
         x.snaps(0, 0);
         x.anew();
         x.rate(1, 60);
+        x.snaps(1, 3);
         s.due("back(0)", 0, x.back(0));
         s.due("span(1, 2)", 2, x.span(1, 2));
         s.due("cupped(0, 4)", 1, x.cupped(0, 4));
         s.due("snapped(0)", -1, x.snapped(0));
+        s.due("snapped(1)", -1, x.snapped(1));
         s.due("undo()", 0, x.undo());
+        x.cups(1, 4);
         s.due("back(0) again: the IMAGE stays", 0, x.back(0));
+        s.due("cupped(0, 4)", 1, x.cupped(0, 4));
+        s.due("cupped(1, 4)", -1, x.cupped(1, 4));
         s.due("undo()", 0, x.undo());
         Check.tell(x, Wires.LONG);
         x.row(0, 0, 3);
@@ -329,6 +335,7 @@ final class ActEdges extends Edges {
         x.write(0, 1, 2);
         x.write(0, 2, 1);
         s.due("laws(0)", 15, x.laws(0));
+        zeros();
         x.row(0, 3, 60);
         x.write(0, 59, -1);
         s.due("spots(0): the last is below 0", -2, x.spots(0));
@@ -355,6 +362,26 @@ final class ActEdges extends Edges {
         }
         s.due("laws(0) stays", 15, y.laws(0));
         s.due("laws(2) has nothing still", -6, y.laws(2));
+    }
+
+    /** 2 ohms on DAY 0, none that lead from DAY 1 on: the numbers that are not written tell that they are 0. */
+    private void zeros() {
+        LeakyLine x = Check.told("wire days 2 law 0 odds 0 volts 9; span 1 leak 1;");
+        x.snaps(0, 1);
+        Check.row(x, 0, 3, 2, 2, 2);
+        x.row(0, 3, 3);
+        x.write(0, 1, 2);
+        x.write(0, 2, 1);
+        s.due("laws(0): the DAY is 0", 15, x.laws(0));
+        x.row(0, 3, 3);
+        x.write(0, 0, 1);
+        x.write(0, 1, 1);
+        s.due("laws(0): below is 0", 15, x.laws(0));
+        x.row(0, 3, 3);
+        x.paste(0, 1, 0, 2, 1);
+        x.write(0, 0, 1);
+        x.write(0, 1, 1);
+        s.due("laws(0): above was 0", 15, x.laws(0));
     }
 
     private void write() {

@@ -216,6 +216,7 @@ final class DayEdges extends Edges {
         LeakyLine x = Check.told(Wires.pole(3, 0, 30, ""));
         x.cups(0, 2);
         s.due("rises(0), 30 stays 30", 0, x.rises(0));
+        s.due("rises(0) by LAW 3, it falls alone", 0, Check.told(Wires.pole(3, 3, 9, "wet 1; wet 3;")).rises(0));
         x = Check.told(Wires.pole(3, 0, 29, ""));
         x.cups(0, 0);
         s.due("rises(0), CUPPED on DAY 0", 0, x.rises(0));
@@ -396,8 +397,8 @@ final class DayEdges extends Edges {
         noWire("all()", -2, LeakyLine::all);
         s.promise(46, "sum(), were a SPAN broken from DAY 0 on (besides those of acts).");
         x = Check.told(Wires.PLAIN);
-        s.due("without(0)", 0, x.without(0));
         s.due("without(1)", 5, x.without(1));
+        s.due("without(0)", 0, x.without(0));
         s.due("sum() stays", 5, x.sum());
         x.snaps(0, 2);
         s.due("without(1), SPAN 0 by an act", 2, x.without(1));
@@ -498,6 +499,10 @@ final class DayEdges extends Edges {
         s.due("weakest(), all alike", 0, Check.told(Wires.LONG).weakest());
         x.rate(1, 0);
         s.due("weakest(), the last", 4, x.weakest());
+        // POLE 1 has less than 10 on a WET DAY, POLE 0 HEARS on all
+        String pair = "wire days 2 law 1 odds 0 volts 12; span 1 leak 5 needs 1; span 1 leak 30 needs 9;";
+        s.due("weakest(), by DAY 0 alone", 1, Check.told(pair + "wet 0;").weakest());
+        s.due("weakest(), by the last DAY alone", 1, Check.told(pair + "wet 2;").weakest());
         s.promise(51, "NONE: there are none;");
         s.due("weakest()", -1, Check.told(Wires.NO_STATIONS).weakest());
         s.due("weakest() without POLES", -1, Check.told(Wires.NO_SPANS).weakest());
@@ -511,6 +516,10 @@ final class DayEdges extends Edges {
         x.rate(3, 60);
         s.due("strong(), all on none", 1, x.strong());
         s.due("strong(), all on all", 0, Check.told(Wires.LONG).strong());
+        x = Check.told("wire days 2 law 1 odds 0 volts 12; span 1 leak 5 needs 9; span 1 leak 30 needs 1; wet 0;");
+        s.due("strong(), by DAY 0 alone", 1, x.strong());
+        x = Check.told("wire days 2 law 1 odds 0 volts 12; span 1 leak 5 needs 9; span 1 leak 30 needs 1; wet 2;");
+        s.due("strong(), by the last DAY alone", 1, x.strong());
         s.due("strong() without STATIONS", -1, Check.told(Wires.NO_STATIONS).strong());
         s.due("strong() without POLES", -1, Check.told(Wires.NO_SPANS).strong());
         noWire("strong()", -2, LeakyLine::strong);

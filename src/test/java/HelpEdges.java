@@ -297,6 +297,8 @@ final class HelpEdges extends Edges {
         s.promise(62, "NONE: none;");
         LeakyLine x = read();
         s.due("ask(0, 0): one is left already", -1, x.ask(0, 0));
+        Check.row(x, 2, 1, 0, 23, 8);
+        s.due("ask(2, 0): 30 is left already", -1, x.ask(2, 0));
         Check.row(x, 2, 1, 0, 9, 9);
         s.due("ask(2, 0): none is left already", -1, x.ask(2, 0));
         x.cups(0, 0);
@@ -316,6 +318,8 @@ final class HelpEdges extends Edges {
         s.due("leaves(0, 0): 1, 2 and 3 at worst", 3, asking("wet 0; wet 1;").leaves(0, 0));
         LeakyLine x = read();
         s.due("leaves(0, 0), as now", 1, x.leaves(0, 0));
+        // 1 tells 5 / 3, 6 tells 5 / 2
+        s.due("leaves(1, 0): above and below tell each of all", 1, x.leaves(1, 0));
         Check.row(x, 2, 1, 0, 9, 9);
         s.due("leaves(2, 0), as now: none", 0, x.leaves(2, 0));
         x.snaps(0, 0);
@@ -409,6 +413,13 @@ final class HelpEdges extends Edges {
             s.due("law(), all alike", 0, Check.told(Wires.LONG.replace("law 0", "law " + told)).law());
         }
         s.due("law() without STATIONS", 0, Check.told(Wires.NO_STATIONS).law());
+        // LEAK 20: 40 VOLTS; 19 by LAW 3: 39.9; 10 by LAW 1: 38.2
+        LeakyLine two = Check.told("wire days 2 law 1 odds 0 volts 42; span 1 leak 20 needs 39; wet 0;");
+        int[] by = {3, 2, 1, 3};
+        for (int law = 0; law < 4; law++) {
+            s.due("by(" + law + ")", by[law], two.by(law));
+        }
+        s.due("law(), 0 and 3 alike", 0, two.law());
         s.promise(68, "-2: there is no WIRE.");
         noWire("law()", -2, LeakyLine::law);
     }
@@ -442,7 +453,11 @@ final class HelpEdges extends Edges {
         LeakyLine five = Check.told("wire days 1 law 0 odds 0 volts 60; span 1 leak 1; span 1 leak 1; span 1 leak 1; span 1 leak 1;"
                 + "span 1 leak 1 needs 38;");
         fraction("share(4) of five", 2, 5, five.share(4, 0), five.share(4, 1));
-        // one of 14 DAYS' POLE alone
+        // POLE 2 first, or behind one other: 4 of 6 orders; POLE 0 between 1 and 2: 1 of 6
+        LeakyLine three = Check.told(ONE_OR_TWO);
+        fraction("share(2) of three", 4, 3, three.share(2, 0), three.share(2, 1));
+        fraction("share(0) of three", 1, 3, three.share(0, 0), three.share(0, 1));
+        fraction("share(1) of three", 1, 3, three.share(1, 0), three.share(1, 1));
         LeakyLine one = Check.told("wire days 13 law 0 odds 0 volts 12; span 1 leak 5 needs 11; span 1 leak 30;");
         one.snaps(1, 0);
         fraction("share(0) of all", 14, 1, one.share(0, 0), one.share(0, 1));
@@ -464,6 +479,9 @@ final class HelpEdges extends Edges {
         s.due("rests(0, 1), neither or both", 9,
                 Check.told("wire days 4 law 0 odds 0 volts 10; span 1 leak 2 needs 9; span 1 leak 2 needs 8;").rests(0, 1));
         s.due("rests(4, 0), far apart, neither", 1, Check.told(Wires.LONG).rests(4, 0));
+        LeakyLine even = Check.told("wire days 1 law 0 odds 0 volts 10; span 1 leak 1 needs 8; span 12 leak 1;");
+        s.due("rests(0, 1), the first one or neither", 3, even.rests(0, 1));
+        s.due("rests(1, 0), the other one or neither", 5, even.rests(1, 0));
         s.promise(71, "-2: there are none such, one twice.");
         LeakyLine y = Check.told(Wires.PLAIN);
         s.refusedBeyond("rests(.., 0)", -2, 1, 1, pole -> y.rests(pole, 0));

@@ -114,6 +114,13 @@ final class LineEdges extends Edges {
         s.due("leak(1, 4): nothing done", 1, x.leak(1, 4));
         s.due("wire() of the most LINES", 14, Check.tell(x, Wires.HEAD + "span 1 leak 1;".repeat(5) + "wet 1;".repeat(8)));
         s.due("wire() of 1 LINE", 1, Check.tell(x, Wires.HEAD));
+        s.due("stations() of 1 LINE: there is a WIRE", 0, x.stations());
+        s.due("joined(3) of 1 LINE: there is a DAY", 0, x.joined(3));
+        Check.tell(x, "wire days 13 law 3 odds 10 volts 60; span 1 leak 1 needs 60; wet 0; wet 1; wet 2;");
+        Check.tell(x, Wires.PLAIN);
+        s.due("wets() of the one before are gone", 0, x.wets());
+        s.due("count(5) of the one before are gone", 0, x.count(5));
+        Check.tell(x, "wire days 13 law 3 odds 10 volts 60; span 1 leak 1 needs 60; wet 0; wet 1; wet 2;");
         x.cups(0, 0);
         s.due("wire() of an empty TAPE", 0, x.wire());
         s.due("stations(): none then", -2, x.stations());
@@ -146,8 +153,12 @@ final class LineEdges extends Edges {
         s.due("end(35): the TAPE stays, too", 35, x.end(35));
         s.due("wire() of what is left", 1, x.wire());
         LeakyLine none = new LeakyLine();
-        Check.tell(none, "wire");
+        Check.tell(none, "wire days 3 law 3 odds 3 volts 3; span 1 leak 1; wet 0; wet 1;!");
         s.due("stations(): there was no WIRE", -2, none.stations());
+        Check.tell(none, Wires.HEAD);
+        s.due("wets() behind a FAULT: what it told is gone", 0, none.wets());
+        s.due("count(4) behind a FAULT", 0, none.count(4));
+        s.due("count(5) behind a FAULT", 0, none.count(5));
     }
 
     private void fault() {
@@ -266,7 +277,9 @@ final class LineEdges extends Edges {
         x.snaps(0, 1);
         fraction("ohms(0)", 2, 1, x.ohms(0, 0), x.ohms(0, 1));
         fraction("ohms(1)", 1, 0, x.ohms(1, 0), x.ohms(1, 1));
-        x = Check.told(Wires.NO_SPANS);
+        x = Check.told(Wires.PLAIN);
+        x.ohms(0, 0);
+        Check.tell(x, Wires.NO_SPANS);
         fraction("ohms(3) without SPANS", 1, 0, x.ohms(3, 0), x.ohms(3, 1));
         s.promise(11, "-2: there are none such, no WIRE.");
         days("ohms(.., 0)", day -> y.ohms(day, 0));
@@ -401,6 +414,8 @@ final class LineEdges extends Edges {
         x.snaps(0, 2);
         s.due("faint(2): all have none", 4, x.faint(2));
         s.due("faint(0): a POLE without a STATION aside", 1, Check.told(Wires.TWO_OF_THREE).faint(0));
+        s.due("faint(0), the first POLE's alone", 0, Check.told("wire days 1 law 0 odds 0 volts 9; span 1 leak 9 needs 1;"
+                + "span 1 leak 9; span 1 leak 9;").faint(0));
         s.promise(20, "NONE: there are none;");
         s.due("faint(0)", -1, Check.told(Wires.NO_STATIONS).faint(0));
         s.due("faint(0) without POLES", -1, Check.told(Wires.NO_SPANS).faint(0));

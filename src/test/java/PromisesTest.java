@@ -1049,7 +1049,8 @@ public final class PromisesTest {
                 d -> x.clear(), d -> x.last(), d -> x.dim(), d -> x.sum(), d -> x.worst(d), d -> x.margin(1, d),
                 d -> x.bright(), d -> x.rises(0), d -> x.ends(d), d -> x.reach(d), d -> x.both(0, 1), d -> x.apart(0, 1),
                 d -> x.half(d), d -> x.grounds(d), d -> x.steep(d), d -> x.mute(), d -> x.changes(), d -> x.lack(d),
-                d -> x.loud(d), d -> x.weakest(), d -> x.strong(), d -> x.batteries(), d -> x.cure(d)));
+                d -> x.loud(d), d -> x.weakest(), d -> x.strong(), d -> x.batteries(), d -> x.cure(d), d -> x.without(1),
+                d -> x.without(2)));
         for (int ask = 0; ask < asking.size(); ask++) {
             for (int day = 0; day < 3; day++) {
                 long first = asking.get(ask).applyAsLong(day);

@@ -42,6 +42,13 @@ final class TermEdges extends Edges {
         s.due("fault(1) of '" + text + "'", place, x.fault(1));
     }
 
+    /** Words that are almost the last one of a text, which stands at a place. */
+    private void alike(String text, int place, String others) {
+        for (String other : others.split(" ")) {
+            faulty(text.substring(0, place) + other + " 3", 1, place);
+        }
+    }
+
     /** A number at the end of ahead is taken from least to most, and is FAULT 2 beyond. */
     private void bounded(String ahead, String behind, int least, int most) {
         int lines = ahead.startsWith(Wires.HEAD) ? 2 : 1;
@@ -140,6 +147,19 @@ final class TermEdges extends Edges {
         faulty("wires days 3 law 0 odds 5 volts 9;", 1, 0);
         faulty("wire dayss 3 law 0 odds 5 volts 9;", 1, 5);
         faulty("wire day 3 law 0 odds 5 volts 9;", 1, 5);
+        for (char letter = 'a'; letter <= 'z'; letter++) {
+            faulty("wire" + letter + " days 3", 1, 0);
+            faulty(letter + "wire days 3", 1, 0);
+        }
+        alike("wire", 0, "wise wirf xire");
+        alike("wire days", 5, "dais dayt eays");
+        alike("wire days 3 law", 12, "lew lax kaw leak");
+        alike("wire days 3 law 0 odds", 18, "adds oddt olds");
+        alike("wire days 3 law 0 odds 5 volts", 25, "volta bolts vults");
+        alike(Wires.HEAD + "span", 33, "spin spam scan spaz");
+        alike(Wires.HEAD + "span 3 leak", 40, "lean beak loak law");
+        alike(Wires.HEAD + "span 3 leak 4 needs", 47, "needy seeds neids");
+        alike(Wires.HEAD + "wet", 33, "wit web set wire");
         faulty("wire days 1 3 law 0 odds 5 volts 9;", 1, 12);
         s.due("days of 13, not 1", 13, Check.told("wire days 13 law 0 odds 5 volts 9;").count(0));
     }
@@ -466,6 +486,7 @@ final class TermEdges extends Edges {
         // 2 DAYS won for 2: not more, either is at REST
         x = Check.told("wire days 1 law 0 odds 0 volts 10; span 1 leak 1 needs 8; span 12 leak 1;");
         s.due("rests(0, 1), as much is not more", 3, x.rests(0, 1));
+        s.due("rests(1, 0), as much is not more", 5, x.rests(1, 0));
         // each HEARS only if both are CUPPED: alone neither GETS more
         x = Check.told("wire days 4 law 0 odds 0 volts 10; span 1 leak 2 needs 9; span 1 leak 2 needs 8;");
         s.due("rests(0, 1), neither or both", 9, x.rests(0, 1));
