@@ -5,7 +5,9 @@ import java.lang.reflect.Modifier;
 import java.nio.file.Files;
 import java.nio.file.Path;
 import java.util.Arrays;
+import java.util.Map;
 import java.util.Set;
+import java.util.TreeMap;
 import java.util.TreeSet;
 import java.util.regex.Matcher;
 import java.util.regex.Pattern;
@@ -18,12 +20,15 @@ public final class LanguageTest {
     private static final Set<String> BUILT_IN = Set.of("String", "StringBuilder", "Integer", "Long", "Math", "System",
             "Arrays", "ArrayList", "List", "Iterator", "Iterable", "Comparable");
 
+    private static final int DEEPEST = 8;
+
     public static void main(String[] args) throws Exception {
         face();
         members();
         String code = code();
         words(code);
         sizes(code);
+        depths(code);
         CHECK.close();
     }
 
@@ -137,5 +142,37 @@ public final class LanguageTest {
                 head = "";
             }
         }
+    }
+
+    /** Rule 11: how deep calls go. By names alone, so methods of one name count as one that calls what each of them does. */
+    private static void depths(String code) {
+        Map<String, String> bodies = new TreeMap<>();
+        Matcher head = Pattern.compile("(?m)^( {4}(?: {4})?)[\\w\\[\\] ]*?(\\w+)\\([^()]*\\) \\{\n(.*?)^\\1\\}", Pattern.DOTALL).matcher(code);
+        while (head.find()) {
+            bodies.merge(head.group(2), head.group(3), String::concat);
+        }
+        CHECK.holds("methods are found: " + bodies.size(), bodies.keySet().containsAll(Set.of("feed", "share", "settle", "isWord")));
+        for (String name : bodies.keySet()) {
+            int depth = depthOf(name, bodies, new TreeSet<>());
+            CHECK.holds(name + " goes " + depth + " deep", depth <= DEEPEST);
+        }
+    }
+
+    /** Calls that stand open at once, the library's counted as one; far too many for what comes back to itself. */
+    private static int depthOf(String name, Map<String, String> bodies, Set<String> open) {
+        if (!open.add(name)) {
+            return 100;
+        }
+        int below = 0;
+        Matcher call = Pattern.compile("(\\.?)\\b(\\w+)\\(").matcher(bodies.get(name));
+        while (call.find()) {
+            if (bodies.containsKey(call.group(2))) {
+                below = Math.max(below, depthOf(call.group(2), bodies, open));
+            } else if (!call.group(1).isEmpty()) {
+                below = Math.max(below, 1);
+            }
+        }
+        open.remove(name);
+        return below + 1;
     }
 }
